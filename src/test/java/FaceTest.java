@@ -110,11 +110,10 @@ public final class FaceTest {
         com.sun.management.ThreadMXBean meter =
                 (com.sun.management.ThreadMXBean) java.lang.management.ManagementFactory.getThreadMXBean();
         WedgePlanes rock = new WedgePlanes(7, 6, 5);
-        long here = Thread.currentThread().getId();
         useAll(rock);
-        long before = meter.getThreadAllocatedBytes(here);
+        long before = meter.getCurrentThreadAllocatedBytes();
         long sum = useAll(rock);
-        long made = meter.getThreadAllocatedBytes(here) - before;
+        long made = meter.getCurrentThreadAllocatedBytes() - before;
         need(sum != 0 && made < 1000, "calls make no objects: " + made + " bytes");
     }
 

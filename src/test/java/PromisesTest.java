@@ -63,6 +63,7 @@ public final class PromisesTest {
         promise = 17;
         modeOfWholeBox();
         modeOfWedges();
+        modeOnSlopes();
         modeWrong();
         promise = 18;
         told();
@@ -185,6 +186,14 @@ public final class PromisesTest {
         due("block is not taken now", () -> rock.block(0, 4) + rock.block(1, 4), 0);
         due("planes of the same lean, other level", () -> rock.joint(2, 0, 0, 3), 1);
         due("planes of the same level, other lean", () -> rock.joint(2, 1, 0, 3), 2);
+        due("y = 1", () -> rock.joint(0, 1, 0, 1), 3);
+        due("y = 2", () -> rock.joint(0, 1, 0, 2), 4);
+        due("y = 2 doubled", () -> rock.joint(0, -2, 0, -4), ARGUMENT);
+        rock.unjoint();
+        rock.unjoint();
+        due("z = 1", () -> rock.joint(0, 0, 1, 1), 3);
+        due("z = 2", () -> rock.joint(0, 0, 1, 2), 4);
+        due("z = 1 doubled", () -> rock.joint(0, 0, 2, 2), ARGUMENT);
     }
 
     private static void unjoint() {
@@ -201,7 +210,8 @@ public final class PromisesTest {
         String one = all(rock);
         rock.joint(2, 1, -3, 3);
         rock.joint(1, 1, 1, 5);
-        rock.take(0);
+        rock.order();
+        due("blocks are taken", () -> rock.told(2) > 0, true);
         due("of three", rock::unjoint, 2);
         due("takes all back", () -> rock.told(2), 0);
         due("of two", rock::unjoint, 1);
@@ -340,6 +350,10 @@ public final class PromisesTest {
         tip.joint(0, 1, -1, 0);
         due("z = 4 shares a line alone, x = 0 a point", () -> tip.block(tip.find(1), 1), 1 | 2 | 1 << 7 | 1 << 8);
         due("corners of a pyramid", () -> tip.block(tip.find(3), 2), 5);
+        WedgePlanes aslant = new WedgePlanes(4, 4, 4);
+        aslant.joint(1, 1, 1, 5);
+        due("whole points below", () -> aslant.block(0, 3), 4);
+        due("whole points above", () -> aslant.block(1, 3), 17);
         edge.open(11, true);
         edge.direction(0, 0, 1);
         edge.take(1);
@@ -609,6 +623,22 @@ public final class PromisesTest {
         due("the joint is free", () -> rock.mode(1), 1);
         rock.pull(0, 0, 0);
         due("a taken block, no pull", () -> rock.mode(0), -1);
+    }
+
+    private static void modeOnSlopes() {
+        int[][] slopes = {{0, 1, 1}, {1, 0, 1}, {1, 1, 0}};
+        int[][] pulls = {{0, 0, -1}, {0, 0, -1}, {0, -1, 0}};
+        int[] way = {9, 7, 7};
+        for (int i = 0; i < 3; i++) {
+            WedgePlanes rock = new WedgePlanes(4, 4, 4);
+            int[] n = slopes[i];
+            int[] g = pulls[i];
+            rock.joint(n[0], n[1], n[2], 4);
+            due("shut " + i, () -> modeBy(rock, 1, g[0], g[1], g[2]), 0);
+            rock.open(way[i], true);
+            due("slides down slope " + i, () -> modeBy(rock, 1, g[0], g[1], g[2]), 10);
+            due("the other stays " + i, () -> modeBy(rock, 0, g[0], g[1], g[2]), 0);
+        }
     }
 
     private static void modeWrong() {
