@@ -110,7 +110,8 @@ public final class FaceTest {
         com.sun.management.ThreadMXBean meter =
                 (com.sun.management.ThreadMXBean) java.lang.management.ManagementFactory.getThreadMXBean();
         WedgePlanes rock = new WedgePlanes(7, 6, 5);
-        useAll(rock);
+        // The first use loads what the Java machine needs, so it is made on another object.
+        useAll(new WedgePlanes(7, 6, 5));
         long before = meter.getCurrentThreadAllocatedBytes();
         long sum = useAll(rock);
         long made = meter.getCurrentThreadAllocatedBytes() - before;

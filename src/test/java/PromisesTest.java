@@ -67,7 +67,6 @@ public final class PromisesTest {
         modeWrong();
         promise = 18;
         told();
-        everyThrowChangesNothing();
         System.out.println(wrong == 0 ? "all promises hold" : wrong + " answers are not as due");
         if (wrong != 0) {
             System.exit(1);
@@ -670,40 +669,5 @@ public final class PromisesTest {
             due("what " + far, () -> rock.told(far), BOUNDS);
         }
         due("what 4", () -> rock.told(4), BOUNDS);
-    }
-
-    private static void everyThrowChangesNothing() {
-        WedgePlanes rock = new WedgePlanes(7, 6, 5);
-        int[][] planes = {{3, -2, 1, 4}, {1, 4, -2, 7}, {-1, 1, 5, 9}, {2, 2, 3, 14}, {5, -6, 1, -2}, {1, 1, -4, -3}};
-        for (int[] p : planes) {
-            rock.joint(p[0], p[1], p[2], p[3]);
-        }
-        for (int i = 0; i < 8; i++) {
-            rock.direction(i - 4, 1, 3 - i);
-        }
-        rock.open(9, true);
-        rock.open(10, true);
-        rock.pull(1, 2, -3);
-        rock.take(rock.blocks() / 2);
-        rock.order();
-        due("blocks are taken", () -> rock.told(2) > 0, true);
-        String before = all(rock);
-        due("joint", () -> rock.joint(0, 0, 0, 0), ARGUMENT);
-        due("joint", () -> rock.joint(6, -4, 2, 8), ARGUMENT);
-        due("joint", () -> rock.joint(1, 2, 3, 6), STATE);
-        due("open", () -> rock.open(5, true), BOUNDS);
-        due("open", () -> rock.open(12, true), BOUNDS);
-        due("direction", () -> rock.direction(0, 0, 0), ARGUMENT);
-        due("direction", () -> rock.direction(1, 1, 1), STATE);
-        due("pull", () -> pulled(rock, 0, 0, 10), ARGUMENT);
-        due("block", () -> rock.block(42, 0), BOUNDS);
-        due("corner", () -> rock.corner(0, 99, 0), BOUNDS);
-        due("beside", () -> rock.beside(0, 6), BOUNDS);
-        due("goes", () -> rock.goes(0, 8), BOUNDS);
-        due("take", () -> rock.take(42), BOUNDS);
-        due("taken", () -> rock.taken(0, 2), BOUNDS);
-        due("mode", () -> rock.mode(42), BOUNDS);
-        due("told", () -> rock.told(4), BOUNDS);
-        due("all is as before", () -> all(rock), before);
     }
 }
