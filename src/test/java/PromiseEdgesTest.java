@@ -94,6 +94,9 @@ public final class PromiseEdgesTest {
             run.due("beside(0, " + left + ")", Run.BOUNDS).due("find(" + ((2 << left) - 1) + ")", -1);
             run.dueCorner(left, 0, left + " 0 0 / 1").dueCorner(left, 7, "8 4 4 / 1");
         }
+        // The same plane can come again, and is as it was.
+        Run.on(4, 4, 4).first("joint(1, 0, 0, 1)", "unjoint()").due("joint(1, 0, 0, 1)", 0).due("blocks()", 2).due("told(3)", 12)
+                .dueCorners(1, "1 0 0 / 1", "1 0 4 / 1", "1 4 0 / 1", "1 4 4 / 1", "4 0 0 / 1", "4 0 4 / 1", "4 4 0 / 1", "4 4 4 / 1");
         // Of joints that went, nothing is left that a new one could meet.
         sixJoints().first("unjoint()", "unjoint()", "unjoint()", "unjoint()").due("joint(0, 1, 0, 1)", 2)
                 .due("blocks()", 6).due("told(3)", 24).dueCorners(5, "2 1 0 / 1", "2 1 4 / 1", "2 4 0 / 1", "2 4 4 / 1",
